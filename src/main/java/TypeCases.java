@@ -7,7 +7,7 @@ public final class TypeCases {
 
     private static final int TRUTHS = 0, BYTES = 1, SHORTS = 2, CHARS = 3;
     private static final int INTS = 4, LONGS = 5, FLOATS = 6, DOUBLES = 7;
-    private static final int LETTERS = 8, CAPITALS = 9, LINES = 10, LETTER_ITSELF = 11;
+    private static final int LETTERS = 8, LINES = 10, LETTER_ITSELF = 11;
     private static final int EMPTY = 12;
 
     // In a hand 8 and 9 mean something else than in a case.

@@ -34,6 +34,7 @@ public final class PromisesTest {
         gatherStops();
         find();
         failed();
+        failedNoMore();
         refusalsInOrder();
         A.end();
     }
@@ -147,6 +148,9 @@ public final class PromisesTest {
         stand(x, "it is one row in two cases", 1, 5, 4, 77, 6);
         A.due(x, "a number", MISFIT, 2, x.set(5, 2));
         A.due("it holds the row still", 5, x.sort(5));
+        x.give(2, 1);
+        x.number(2, 5, 77);
+        A.due("a number where a letter was held", MISFIT, x.weight(2));
         x.give(2, NONE);
         A.due(x, "nothing", 1, 0, x.set(5, 2));
         A.due("nothing", 12, x.sort(5));
@@ -316,6 +320,8 @@ public final class PromisesTest {
         A.due(x, "nothing into numbers", MISFIT, 2, x.swap(0, 0, 0));
         x.hold(1, 9, 1);
         x.give(0, 3);
+        x.number(1, 4, 0);
+        A.due("a number into capitals", MISFIT, x.swap(1, 1, 0));
         A.due("a capital for nothing", 1, x.swap(0, 1, 0));
         A.due("nothing", 12, x.kind(0));
         A.due("nothing for a capital", 1, x.swap(0, 1, 0));
@@ -731,7 +737,45 @@ public final class PromisesTest {
         A.due(x, "put", 1, 0, x.put(2, 0, 1));
         refused(x, 0);
         A.due(x, "tell", MISFIT, 2, x.tell(0, 1, 1));
-        A.due(x, "a number that reads like a cause", 3, 0, x.value(2, 4));
+        x.number(2, 4, MISFIT);
+        A.due(x, "a number that reads like a failure", MISFIT, 0, x.value(2, 4));
+    }
+
+    /** Each call with causes that does not fail tells 0, whatever failed before it. */
+    private static void failedNoMore() {
+        TypeCases x = withLetters();
+        longs(x, 0, 3, 1, 2);
+        x.lift(0, 0);
+        x.give(1, 1);
+        x.number(2, 5, 1);
+        for (int call = 0; call < 17; call++) {
+            A.due(x, "a failing call", NOTHING, 1, x.places(11));
+            long answer = fine(x, call);
+            A.due("call " + call + " does not fail", 0, x.failed());
+            A.holds("call " + call + " answers no failure", answer >= NONE);
+        }
+    }
+
+    private static long fine(TypeCases x, int call) {
+        switch (call) {
+            case 0: return x.set(1, 0);
+            case 1: return x.take(3, 0, 0);
+            case 2: return x.put(2, 0, 1);
+            case 3: return x.swap(2, 0, 1);
+            case 4: return x.exchange(0, 0, 1, 2);
+            case 5: return x.value(0, 9);
+            case 6: return x.value(1, 8);
+            case 7: return x.value(2, 5);
+            case 8: return x.weight(1);
+            case 9: return x.tell(0, 0, 5);
+            case 10: return x.places(0);
+            case 11: return x.turn(0);
+            case 12: return x.order(0, 5);
+            case 13: return x.spread(0, 0, 2);
+            case 14: return x.gather(0, 1, 2, 1);
+            case 15: return x.find(1, 0);
+            default: return x.find(2, 0);
+        }
     }
 
     private static void refused(TypeCases x, int cause) {
