@@ -1,16 +1,26 @@
 /** Counts and prints the answers that are not as due. */
 final class Answers {
-    private final String test;
+    private final String name;
+    private String sentence = "";
+    private int tests = 0;
     private int wrong = 0;
 
-    Answers(String test) {
-        this.test = test;
+    Answers(String name) {
+        this.name = name;
+    }
+
+    /** One test, told by the sentence of the document that it would find broken. */
+    void test(String words, Runnable body) {
+        tests++;
+        sentence = " [" + words + "]";
+        body.run();
+        sentence = "";
     }
 
     void due(String what, long want, long got) {
         if (got != want) {
             wrong++;
-            System.out.println(test + ": " + what + " answered " + got + ", due is " + want);
+            System.out.println(name + sentence + ": " + what + " answered " + got + ", due is " + want);
         }
     }
 
@@ -18,6 +28,13 @@ final class Answers {
     void due(TypeCases x, String what, long want, int cause, long got) {
         due(what, want, got);
         due(what + ", then failed()", cause, x.failed());
+    }
+
+    void same(String what, String want, String got) {
+        if (!got.equals(want)) {
+            wrong++;
+            System.out.println(name + sentence + ": " + what + " left " + got + ", due is " + want);
+        }
     }
 
     void holds(String what, boolean asDue) {
@@ -29,7 +46,8 @@ final class Answers {
     }
 
     void end() {
-        System.out.println(test + ": " + (wrong == 0 ? "all as due" : wrong + " not as due"));
+        String many = tests == 0 ? "" : tests + " tests, ";
+        System.out.println(name + ": " + many + (wrong == 0 ? "all as due" : wrong + " not as due"));
         if (wrong != 0) {
             System.exit(1);
         }
